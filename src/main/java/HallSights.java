@@ -60,13 +60,13 @@ public final class HallSights {
         if (!hall.hasRoomForRow(distance)) {
             throw new IllegalStateException("there are 10 rows, or one has this distance");
         }
-        history.keep(hall);
+        saveState();
         return hall.insertRow(distance, height, seats);
     }
 
     public int removeRow(int row) throws IndexOutOfBoundsException {
         checkRow(row);
-        history.keep(hall);
+        saveState();
         hall.deleteRow(row);
         return hall.seatsInAll();
     }
@@ -75,7 +75,7 @@ public final class HallSights {
             throws IndexOutOfBoundsException, IllegalArgumentException {
         checkRow(row);
         checkHeight(height);
-        history.keep(hall);
+        saveState();
         int before = hall.heights[row];
         hall.heights[row] = height;
         return before;
@@ -95,13 +95,13 @@ public final class HallSights {
         if (hall.columns >= MOST_COLUMNS) {
             throw new IllegalStateException("there are 4 columns");
         }
-        history.keep(hall);
+        saveState();
         return hall.insertColumn(distance, side, half);
     }
 
     public int removeColumn(int column) throws IndexOutOfBoundsException {
         checkColumn(column);
-        history.keep(hall);
+        saveState();
         hall.deleteColumn(column);
         return hall.columns;
     }
@@ -112,7 +112,7 @@ public final class HallSights {
         if (value < LEAST_OF_SETTING[setting] || value > MOST_OF_SETTING[setting]) {
             throw new IllegalArgumentException("value is out of the setting's range");
         }
-        history.keep(hall);
+        saveState();
         int before = hall.settings[setting];
         hall.settings[setting] = value;
         return before;
@@ -125,7 +125,7 @@ public final class HallSights {
         if (hall.isTaken(row, seat)) {
             throw new IllegalStateException("the seat is taken");
         }
-        history.keep(hall);
+        saveState();
         hall.occupy(row, seat, 1);
         return hall.peopleInWay(row, seat);
     }
@@ -135,7 +135,7 @@ public final class HallSights {
         if (!hall.isTaken(row, seat)) {
             throw new IllegalStateException("the seat is free");
         }
-        history.keep(hall);
+        saveState();
         hall.vacate(row, seat);
         return hall.takenInAll();
     }
@@ -149,20 +149,20 @@ public final class HallSights {
         if (place == NONE) {
             throw new IllegalStateException("there are not so many free seats side by side");
         }
-        history.keep(hall);
+        saveState();
         hall.occupy(place / 100, place % 100, many);
         return place;
     }
 
     public int clear() {
-        history.keep(hall);
+        saveState();
         int before = hall.takenInAll();
         hall.vacateAll();
         return before;
     }
 
     public int liftAll() {
-        history.keep(hall);
+        saveState();
         int lifted = 0;
         for (int row = 1; row < hall.rows; row++) {
             int least = hall.lowestHeight(row);
@@ -201,7 +201,7 @@ public final class HallSights {
         if (!text.isComplete()) {
             throw new IllegalArgumentException("the buffer is not complete rows as a text");
         }
-        history.keep(hall);
+        saveState();
         int added = 0;
         while (added < text.rowsRead() && hall.hasRoomForRow(text.distanceRead(added))) {
             hall.insertRow(text.distanceRead(added), text.heightRead(added), text.seatsRead(added));
@@ -216,6 +216,7 @@ public final class HallSights {
             throw new IllegalStateException("there is no saved state");
         }
         history.restoreLatest(hall);
+        survey.forget();
         return history.size;
     }
 
@@ -326,6 +327,12 @@ public final class HallSights {
         return hash;
     }
 
+    /** Each change of the hall begins with this, or is undo(): the survey does not outlive it. */
+    private void saveState() {
+        history.keep(hall);
+        survey.forget();
+    }
+
     // ---- checks of arguments
 
     private void checkRow(int row) {
@@ -399,7 +406,7 @@ public final class HallSights {
             case 5:
                 return hall.takenBehind(row, seat);
             default:
-                return survey.placeOf(row, seat);
+                return survey.placeOf(row, seat, false);
         }
     }
 
@@ -442,6 +449,7 @@ public final class HallSights {
     private int takenSeeingAt(int row, int height) {
         trial.copyFrom(hall);
         trial.heights[row] = height;
+        trialSurvey.forget();
         trialSurvey.look();
         return trialSurvey.takenSeeing();
     }
@@ -737,11 +745,12 @@ public final class HallSights {
     }
 
     /**
-     * What was in the way of each seat of a hall when look() was last called. It is looked once
-     * for a call of the face, and asked as often as that call needs.
+     * What is in the way of each seat of a hall. It is asked only behind look(), which counts anew
+     * if forget() was called since: so a digest, or many looks in a row, count but once.
      */
     private static final class Survey {
         private final Hall hall;
+        private boolean looked;
         final int[] people = new int[MOST_ROWS * MOST_SEATS];
         final int[] columns = new int[MOST_ROWS * MOST_SEATS];
         /** Numbers unlike each other, that are less for the seats that come first in the order. */
@@ -751,7 +760,14 @@ public final class HallSights {
             this.hall = hall;
         }
 
+        void forget() {
+            looked = false;
+        }
+
         void look() {
+            if (looked) {
+                return;
+            }
             for (int row = 0; row < hall.rows; row++) {
                 for (int seat = 0; seat < hall.seats[row]; seat++) {
                     int cell = cellOf(row, seat);
@@ -760,6 +776,7 @@ public final class HallSights {
                     ranks[cell] = rankOf(row, seat);
                 }
             }
+            looked = true;
         }
 
         static int cellOf(int row, int seat) {
@@ -823,12 +840,13 @@ public final class HallSights {
             return sum;
         }
 
-        int placeOf(int row, int seat) {
+        int placeOf(int row, int seat, boolean amongFree) {
             int rank = ranks[cellOf(row, seat)];
             int place = 0;
             for (int otherRow = 0; otherRow < hall.rows; otherRow++) {
                 for (int other = 0; other < hall.seats[otherRow]; other++) {
-                    if (ranks[cellOf(otherRow, other)] < rank) {
+                    boolean counts = !amongFree || !hall.isTaken(otherRow, other);
+                    if (counts && ranks[cellOf(otherRow, other)] < rank) {
                         place++;
                     }
                 }
@@ -839,25 +857,12 @@ public final class HallSights {
         int freeSeatAt(int place) {
             for (int row = 0; row < hall.rows; row++) {
                 for (int seat = 0; seat < hall.seats[row]; seat++) {
-                    if (!hall.isTaken(row, seat) && freeBefore(row, seat) == place) {
+                    if (!hall.isTaken(row, seat) && placeOf(row, seat, true) == place) {
                         return 100 * row + seat;
                     }
                 }
             }
             return NONE;
-        }
-
-        private int freeBefore(int row, int seat) {
-            int rank = ranks[cellOf(row, seat)];
-            int sum = 0;
-            for (int otherRow = 0; otherRow < hall.rows; otherRow++) {
-                for (int other = 0; other < hall.seats[otherRow]; other++) {
-                    if (!hall.isTaken(otherRow, other) && ranks[cellOf(otherRow, other)] < rank) {
-                        sum++;
-                    }
-                }
-            }
-            return sum;
         }
 
         int placeForParty(int many) {

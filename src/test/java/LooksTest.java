@@ -27,7 +27,7 @@ final class LooksTest {
      * the seat (0, 1) for the seat 1, and (0, 2) for the seat 3; of the row 2 (0, 1) for the seats
      * 0 and 1, (0, 2) for 2 and 3, (1, 1) for 0, (1, 2) for 1 and 2, and (1, 3) for 3.
      */
-    private static HallSights flatHall() {
+    static HallSights flatHall() {
         HallSights x = new HallSights();
         x.addRow(10, 0, 4);
         x.addRow(20, 0, 5);

@@ -1,7 +1,9 @@
 import java.math.BigInteger;
 import java.util.ArrayList;
 import java.util.Comparator;
+import java.util.HashMap;
 import java.util.List;
+import java.util.Map;
 import java.util.regex.Matcher;
 import java.util.regex.Pattern;
 
@@ -344,7 +346,11 @@ public final class PlainHall {
 
     private List<Seat> ordered(List<Seat> seats) {
         List<Seat> all = new ArrayList<>(seats);
-        all.sort(Comparator.comparingInt((Seat seat) -> inWay(seat)).thenComparingInt(Seat::row)
+        Map<Seat, Integer> inWay = new HashMap<>();
+        for (Seat seat : all) {
+            inWay.put(seat, inWay(seat));
+        }
+        all.sort(Comparator.comparingInt((Seat seat) -> inWay.get(seat)).thenComparingInt(Seat::row)
                 .thenComparingInt(seat -> Math.abs(side(seat))).thenComparingInt(Seat::seat));
         return all;
     }

@@ -65,7 +65,7 @@ final class RandomRunsTest {
             }
             Object[] arguments = new Object[pair[0].getParameterCount()];
             for (int at = 0; at < arguments.length; at++) {
-                arguments[at] = argument(name, at, program, random);
+                arguments[at] = argument(name, at, plain, random);
             }
             run.append("; ").append(name).append(List.of(arguments));
             String got = answer(pair[0], program, arguments);
@@ -97,7 +97,7 @@ final class RandomRunsTest {
                     : kind == 2 ? 980 + random.nextInt(20) : 10 + row * (1 + random.nextInt(20));
             int height = kind == 3 ? random.nextInt(30) : kind == 4 ? row * random.nextInt(60) : 0;
             int seats = kind == 5 ? 12 : 1 + random.nextInt(12);
-            if (program.count(0) == 10) {
+            if (plain.count(0) == 10) {
                 break;
             }
             try {
@@ -110,9 +110,9 @@ final class RandomRunsTest {
             }
         }
         for (int person = 0; person < 60 && kind != 0; person++) {
-            int row = random.nextInt(program.count(0));
-            int seat = random.nextInt(program.row(row, 2));
-            if (program.seat(row, seat, 1) == 0) {
+            int row = random.nextInt(plain.count(0));
+            int seat = random.nextInt(plain.row(row, 2));
+            if (plain.seat(row, seat, 1) == 0) {
                 int got = program.take(row, seat);
                 if (got != plain.take(row, seat)) {
                     return "take(" + row + ", " + seat + ") answered " + got;
@@ -136,7 +136,7 @@ final class RandomRunsTest {
                 : "another firstError() behind " + piece;
     }
 
-    private static Integer argument(String name, int at, HallSights program, Random random) {
+    private static Integer argument(String name, int at, PlainHall plain, Random random) {
         if (random.nextInt(25) == 0) {
             return ODD[random.nextInt(ODD.length)];
         }
@@ -164,13 +164,13 @@ final class RandomRunsTest {
         if (name.equals("setting")) {
             return random.nextInt(3);
         }
-        return laterArgument(name, at, program, random);
+        return laterArgument(name, at, plain, random);
     }
 
-    private static Integer laterArgument(String name, int at, HallSights program, Random random) {
+    private static Integer laterArgument(String name, int at, PlainHall plain, Random random) {
         boolean ofColumn = name.equals("column") || name.equals("removeColumn");
         if (at == 0) {
-            return random.nextInt(Math.max(1, program.count(ofColumn ? 1 : 0)));
+            return random.nextInt(Math.max(1, plain.count(ofColumn ? 1 : 0)));
         }
         if (name.equals("lift") || name.equals("ifLifted")) {
             return random.nextInt(random.nextBoolean() ? 150 : 1000);

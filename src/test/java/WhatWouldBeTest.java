@@ -18,19 +18,6 @@ final class WhatWouldBeTest {
         Check.end("WhatWouldBeTest");
     }
 
-    /** The hall that LooksTest tells of. */
-    private static HallSights flatHall() {
-        HallSights x = new HallSights();
-        x.addRow(10, 0, 4);
-        x.addRow(20, 0, 5);
-        x.addRow(30, 0, 4);
-        int[][] people = {{0, 1}, {0, 2}, {1, 2}, {1, 3}, {2, 0}, {2, 2}};
-        for (int[] one : people) {
-            x.take(one[0], one[1]);
-        }
-        return x;
-    }
-
     private static void leastHeight() {
         HallSights x = new HallSights();
         x.addRow(7, 0, 1);
@@ -72,7 +59,7 @@ final class WhatWouldBeTest {
     }
 
     private static void ifLifted() {
-        HallSights x = flatHall();
+        HallSights x = LooksTest.flatHall();
         int[][] due = {{2, 0, 3}, {2, 300, 5}, {1, 300, 4}, {0, 0, 3}, {0, 999, 3}, {1, 0, 3}};
         for (int[] one : due) {
             Check.looks("ifLifted(" + one[0] + ", " + one[1] + ")", x, one[2],
@@ -90,7 +77,7 @@ final class WhatWouldBeTest {
     }
 
     private static void ifTaken() {
-        HallSights x = flatHall();
+        HallSights x = LooksTest.flatHall();
         Check.looks("ifTaken(0, 1), which is taken", x, 0, () -> x.ifTaken(0, 1));
         Check.looks("ifTaken(1, 1) ahead of those who do not see", x, 0, () -> x.ifTaken(1, 1));
         x.clear();
@@ -111,7 +98,7 @@ final class WhatWouldBeTest {
     }
 
     private static void worstColumn() {
-        HallSights x = flatHall();
+        HallSights x = LooksTest.flatHall();
         Check.looks("worstColumn() without columns", x, HallSights.NONE, () -> x.worstColumn());
         x.addColumn(999, 0, 5);
         Check.looks("worstColumn() of one in nobody's way", x, 0, () -> x.worstColumn());
@@ -129,7 +116,7 @@ final class WhatWouldBeTest {
     }
 
     private static void seeingShare() {
-        HallSights x = flatHall();
+        HallSights x = LooksTest.flatHall();
         long before = x.digest();
         Check.holds("seeingShare() is 3 / 6", x.seeingShare() == 0.5);
         Check.same("the digest after seeingShare()", x.digest(), before);
@@ -153,7 +140,7 @@ final class WhatWouldBeTest {
     }
 
     private static void digest() {
-        HallSights x = flatHall();
+        HallSights x = LooksTest.flatHall();
         lookAtDigest(x, "");
         Check.write(x, "1^2~");
         lookAtDigest(x, "1^2~");
@@ -164,7 +151,22 @@ final class WhatWouldBeTest {
         x.undo();
         x.set(0, 120);
         lookAtDigest(x, "1^2~");
+        digestLiftsTo50();
         shares();
+    }
+
+    /** In these halls the row 1 sees from 50 and from 51 on. */
+    private static void digestLiftsTo50() {
+        int[][] halls = {{10, 3, 20, 50}, {20, 1, 43, 51}};
+        for (int[] hall : halls) {
+            HallSights x = new HallSights();
+            x.addRow(hall[0], hall[1], 1);
+            x.addRow(hall[2], 0, 1);
+            x.take(0, 0);
+            x.take(1, 0);
+            Check.same("leastHeight(1)", x.leastHeight(1), hall[3]);
+            lookAtDigest(x, "");
+        }
     }
 
     /** Every share that 12 seats can have, and so all kinds of bits of it. */
