@@ -5,8 +5,14 @@ final class Check {
     }
 
     private static int wrong = 0;
+    private static String where = "";
 
     private Check() {
+    }
+
+    /** What is found wrong from here on is told with this place; none if it is empty. */
+    static void within(String place) {
+        where = place.isEmpty() ? "" : place + ": ";
     }
 
     static void same(String what, long got, long want) {
@@ -23,7 +29,7 @@ final class Check {
 
     static void say(String fault) {
         wrong++;
-        System.out.println(fault);
+        System.out.println(where + fault);
     }
 
     /** The call throws just this exception, and changes nothing. */
