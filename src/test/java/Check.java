@@ -54,39 +54,15 @@ final class Check {
 
     /** The call answers so and saves one state, which undo() brings back; then it is called again. */
     static void undoable(String what, HallSights hall, long want, Call call) {
-        long before = picture(hall);
+        String before = Edge.picture(hall);
         int saved = Math.min(6, hall.count(8) + 1);
         same(what, call.answer(), want);
-        long after = picture(hall);
+        String after = Edge.picture(hall);
         same(what + ": saved states", hall.count(8), saved);
         same(what + ": undo()", hall.undo(), saved - 1);
-        same(what + ": the picture after undo()", picture(hall), before);
+        holds(what + ": the picture after undo()", Edge.picture(hall).equals(before));
         same(what + " once more", call.answer(), want);
-        same(what + " once more: the picture", picture(hall), after);
-    }
-
-    /** A hash of all that undo() brings back: rows, columns, people and settings. */
-    private static long picture(HallSights hall) {
-        StringBuilder all = new StringBuilder();
-        for (int setting = 0; setting < 3; setting++) {
-            all.append(hall.setting(setting)).append(' ');
-        }
-        for (int row = 0; row < hall.count(0); row++) {
-            all.append("| ");
-            for (int what = 0; what < 3; what++) {
-                all.append(hall.row(row, what)).append(' ');
-            }
-            for (int seat = 0; seat < hall.row(row, 2); seat++) {
-                all.append(hall.seat(row, seat, 1)).append(' ');
-            }
-        }
-        for (int column = 0; column < hall.count(1); column++) {
-            all.append("/ ");
-            for (int what = 0; what < 3; what++) {
-                all.append(hall.column(column, what)).append(' ');
-            }
-        }
-        return all.toString().hashCode();
+        holds(what + " once more: the picture", Edge.picture(hall).equals(after));
     }
 
     static void write(HallSights hall, String text) {

@@ -555,6 +555,15 @@ final class LookEdges {
             x.leave(7, seat);
         }
         Check.same("count() of five at the beginning", x.count(7), 5);
+        for (int seat = 1; seat < 6; seat++) {
+            x.leave(0, seat);
+        }
+        Check.same("count() of six in the row 0", x.count(7), 6);
+        x.leave(9, 1);
+        for (int seat = 5; seat < 11; seat++) {
+            x.leave(9, seat);
+        }
+        Check.same("count() of seven in the row 9", x.count(7), 7);
     }
 
     private static void countProperties() {

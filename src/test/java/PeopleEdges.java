@@ -258,7 +258,7 @@ final class PeopleEdges {
         Edge.rowIs(x, 0, "10^0 ############");
     }
 
-    /** The row 1 is straight behind the row 0, and so is each of two columns, ahead of its seat 0. */
+    /** The row 1 is straight behind the row 0, and its seat 0 is behind two columns as well. */
     private static HallSights behindHeadsAndColumns() {
         HallSights x = new HallSights();
         x.addRow(900, 0, 4);

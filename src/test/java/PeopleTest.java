@@ -114,9 +114,9 @@ final class PeopleTest {
         x.clear();
         x.take(0, 1);
         x.take(0, 2);
-        Check.undoable("seatParty(1) in the lowest row", x, 0, () -> x.seatParty(1));
+        Check.same("seatParty(1) in the lowest row", x.seatParty(1), 0);
         x.take(0, 3);
-        Check.undoable("seatParty(1) from the lowest seat", x, 100, () -> x.seatParty(1));
+        Check.same("seatParty(1) from the lowest seat", x.seatParty(1), 100);
         x.leave(1, 0);
         x.addColumn(15, -3, 0);
         // In the way of the row 1 are now 1 1 0 1 0, of which the first is the column.

@@ -1,4 +1,3 @@
-import java.math.BigInteger;
 import java.util.ArrayList;
 import java.util.Comparator;
 import java.util.HashMap;
@@ -37,14 +36,10 @@ public final class PlainHall {
     private record Seat(int row, int seat) {
     }
 
-    private record Fraction(BigInteger top, BigInteger bottom) {
-        static Fraction of(long top, long bottom) {
-            return new Fraction(BigInteger.valueOf(top), BigInteger.valueOf(bottom));
-        }
-
-        /** How it compares with a whole number. */
+    private record Fraction(long top, long bottom) {
+        /** How it compares with a whole number; bottoms are above 0. */
         int compareWith(long whole) {
-            return top.compareTo(bottom.multiply(BigInteger.valueOf(whole)));
+            return Long.compare(top, bottom * whole);
         }
     }
 
@@ -301,7 +296,7 @@ public final class PlainHall {
     }
 
     private Fraction onLine(Seat seat, int atTheSeat, int at) {
-        return Fraction.of((long) atTheSeat * at, rows.get(seat.row).distance);
+        return new Fraction((long) atTheSeat * at, rows.get(seat.row).distance);
     }
 
     private boolean wouldBlock(Seat head, Seat seat) {
@@ -465,7 +460,7 @@ public final class PlainHall {
         for (Row ahead : rows.subList(0, row)) {
             int top = ahead.height + settings[1] + settings[2] - settings[0];
             long eye = height + settings[1] - settings[0];
-            if (Fraction.of(eye * ahead.distance, rows.get(row).distance).compareWith(top) < 0) {
+            if (new Fraction(eye * ahead.distance, rows.get(row).distance).compareWith(top) < 0) {
                 return false;
             }
         }

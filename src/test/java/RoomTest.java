@@ -1,9 +1,11 @@
 import com.sun.management.ThreadMXBean;
 import java.lang.management.ManagementFactory;
 
-/** A full hall's dearest calls make no objects, and 512 calls that throw make few. */
+/** A full hall's calls make no objects. */
 final class RoomTest {
-    private static final int CALLS = 512;
+    private static final int HALLS = 32;
+    /** Each time is 28 calls, so that no hall is called more than 512 times. */
+    private static final int TIMES = 16;
     private static final long BYTES_OF_ONE_OBJECT = 32;
 
     private RoomTest() {
@@ -12,14 +14,18 @@ final class RoomTest {
     public static void main(String[] args) {
         if (ManagementFactory.getThreadMXBean() instanceof ThreadMXBean threads
                 && threads.isThreadAllocatedMemorySupported()) {
-            HallSights warm = fullHall();
-            callAll(warm, 1);
-            HallSights x = fullHall();
+            callAll(fullHall(), 1);
+            HallSights[] halls = new HallSights[HALLS];
+            for (int hall = 0; hall < HALLS; hall++) {
+                halls[hall] = fullHall();
+            }
             long before = threads.getThreadAllocatedBytes(Thread.currentThread().getId());
-            callAll(x, CALLS);
+            for (HallSights hall : halls) {
+                callAll(hall, TIMES);
+            }
             long bytes = threads.getThreadAllocatedBytes(Thread.currentThread().getId()) - before;
-            Check.holds(bytes + " bytes for " + CALLS + " times all calls are next to none",
-                    bytes < CALLS * BYTES_OF_ONE_OBJECT);
+            Check.holds(bytes + " bytes for " + HALLS * TIMES + " times all calls are next to none",
+                    bytes < HALLS * TIMES * BYTES_OF_ONE_OBJECT);
         }
         Check.end("RoomTest");
     }

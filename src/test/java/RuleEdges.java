@@ -223,14 +223,16 @@ final class RuleEdges {
         Check.write(x, SIXTY);
         Check.same("firstError() of ten rows more than there may be", x.firstError(), 60);
         Check.same("addAll() of them", x.addAll(), 0);
+        HallSights y = Halls.withText(SIXTY.substring(0, 54) + "9^0*1;");
+        Check.same("firstError() of the beginning of an eleventh row", y.firstError(), 60);
     }
 
     private static void distancesAreNoSyntax() {
         HallSights x = Halls.withText("500^0*1;7^0*1;7^0*1");
         Check.same("firstError() of distances that are there", x.firstError(), 19);
         Check.same("addAll() of them", x.addAll(), 0);
-        HallSights y = Halls.withText("7^0*1;7^0*1");
-        Check.same("firstError() of a distance twice", y.firstError(), 11);
+        HallSights y = Halls.withText("7^0*1;7^0*1;7^0*1");
+        Check.same("firstError() of a distance three times", y.firstError(), 17);
         Check.same("addAll() of it", y.addAll(), 1);
     }
 

@@ -98,7 +98,7 @@ final class TermEdges {
         Check.same("who sits there", x.count(3), 3);
     }
 
-    /** 510 changes, of which the last one is undone: that is the 511th call, and one look follows. */
+    /** Changes, refused calls, and calls for the buffer, 512 of each in all. */
     private static void calls512() {
         HallSights x = new HallSights();
         x.addRow(10, 0, 1);
@@ -499,7 +499,7 @@ final class TermEdges {
         z.addColumn(250, -11, 5);
         z.addColumn(250, 10, 5);
         z.addColumn(250, -10, 5);
-        // Lines pass at -5.5 -4.5 .. 5.5; the first two columns end at 6 and -6, the others at 5, -5.
+        // Lines pass at -5.5 -4.5 .. 5.5; two columns end at 6 and -6, and two at 5 and -5.
         Edge.allAre("a half width of 5", z, (y, seat) -> y.seat(0, seat, 3),
                 1, 0, 0, 0, 0, 0, 0, 0, 0, 0, 0, 1);
     }

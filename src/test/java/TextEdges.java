@@ -276,6 +276,11 @@ final class TextEdges {
         x.undo();
         Check.holds("undo() brings back the height", Edge.picture(x).equals(first));
         Check.same("saved states: undo() is not undoable", x.count(8), 0);
+        HallSights z = Halls.two(10, 0, 20, 0);
+        z.take(0, 0);
+        Check.same("seats that see", z.count(4), 1);
+        z.undo();
+        Check.same("seats that see right behind undo()", z.count(4), 2);
         HallSights y = Halls.full();
         y.set(0, 1);
         y.addColumn(5, 0, 0);

@@ -94,22 +94,23 @@ final class WhatWouldBeEdges {
         Sentences.test("Computes a hash of the whole state.", WhatWouldBeEdges::digestTells);
         Sentences.test("The hash starts at 2621.", WhatWouldBeEdges::digestOfNewObject);
         Sentences.test("For each value v of the following list, in order, the hash becomes 31 *"
-                + " hash + v, in long arithmetic with overflow.", WhatWouldBeEdges::digestOverflows);
-        Sentences.test("The values are: count(0) to count(8)", () -> digestIs(Halls.full(), ""));
+                + " hash + v, in long arithmetic with overflow.",
+                WhatWouldBeEdges::digestOverflows);
+        Sentences.test("The values are: count(0) to count(8)", () -> digestIs(Halls::full, ""));
         Sentences.test("the settings 0 to 2", WhatWouldBeEdges::digestOfSettings);
         Sentences.test("for each row its properties 0 to 5, leastHeight, ifLifted to 50",
                 WhatWouldBeEdges::digestOfRows);
         Sentences.test("and for each of its seats the properties 0 to 6, whoBlocks, and ifTaken",
                 WhatWouldBeEdges::digestOfSeats);
         Sentences.test("for each column its properties 0 to 3",
-                () -> digestIs(Halls.fourColumns(), ""));
+                () -> digestIs(Halls::fourColumns, ""));
         Sentences.test("best with 0 to 2", WhatWouldBeEdges::digestOfBest);
         Sentences.test("worstColumn", WhatWouldBeEdges::digestOfWorst);
         Sentences.test("the bits of seeingShare (as Double.doubleToLongBits)",
                 WhatWouldBeEdges::digestOfShares);
         Sentences.test("the length of the buffer and each of its character codes.",
                 WhatWouldBeEdges::digestOfBuffer);
-        Sentences.test("Returns the hash.", () -> digestIs(Halls.busy(), "50^70*6;60^80*1"));
+        Sentences.test("Returns the hash.", () -> digestIs(Halls::busy, "50^70*6;60^80*1"));
     }
 
     // ---- promise 25
@@ -237,6 +238,9 @@ final class WhatWouldBeEdges {
         // The head in the row 1 ends at the line to the row 2, 120 * 20 / 30, at 48.
         Edge.looks("ifLifted(1, 48)", 3, WhatWouldBeEdges::threeTaken, x -> x.ifLifted(1, 48));
         Edge.looks("ifLifted(1, 49)", 2, WhatWouldBeEdges::threeTaken, x -> x.ifLifted(1, 49));
+        HallSights x = threeTaken();
+        x.addRow(5, 0, 12);
+        Check.same("ifLifted(2, 43) behind free seats that see", x.ifLifted(2, 43), 2);
     }
 
     private static void liftedRows() {
@@ -366,22 +370,21 @@ final class WhatWouldBeEdges {
     }
 
     private static void worstOfSeats() {
-        // The first hides four seats, of which two are behind the second too; the third hides three.
+        // The first hides four seats, of which two are behind the second; the third hides three.
         Check.same("worstColumn() of columns behind each other",
                 columns(new int[] {0, 2}, new int[] {1, 1}, new int[] {-5, 1}).worstColumn(), 0);
         Check.same("worstColumn() of a broad one behind two others",
                 columns(new int[] {0, 1}, new int[] {0, 1}, new int[] {5, 0}, new int[] {5, 1})
                         .worstColumn(), 3);
         HallSights x = Halls.full();
-        x.addColumn(989, -10, 1);
-        x.addColumn(998, 0, 5);
-        // The second hides six seats of the row 9, that do not see for the people ahead of them.
-        Check.same("seats behind the second", x.column(1, 3), 6);
+        x.addColumn(495, -6, 1);
+        x.addColumn(990, 0, 5);
+        // Behind the second no seat would see, for the people ahead of each.
+        Check.same("seats behind the first", x.column(0, 3), 10);
+        Check.same("seats behind the second", x.column(1, 3), 54);
         Check.same("worstColumn() of one behind people", x.worstColumn(), 0);
         x.clear();
-        x.removeColumn(0);
-        x.addColumn(998, 10, 1);
-        Check.same("worstColumn() of free seats", x.worstColumn(), 0);
+        Check.same("worstColumn() of free seats", x.worstColumn(), 1);
     }
 
     private static void worstOfSeveral() {
@@ -434,17 +437,21 @@ final class WhatWouldBeEdges {
     }
 
     private static void shareDivided() {
-        HallSights x = Halls.full();
-        x.liftAll();
+        HallSights x = all120But1();
+        shareIs(x, 119, 120);
+        x.removeColumn(0);
         shareIs(x, 120, 120);
         Check.holds("the share of all is 1.0", x.seeingShare() == 1.0);
-        // Ahead of the row 9 alone, it covers the sides -14 to -10.
-        x.addColumn(998, -12, 2);
-        shareIs(x, 119, 120);
         x.addColumn(1, 0, 5);
         shareIs(x, 0, 120);
         Check.holds("the share of none is 0.0", x.seeingShare() == 0.0);
         shareIs(oneOf120(), 1, 120);
+        HallSights y = Halls.large();
+        y.take(9, 11);
+        y.take(8, 11);
+        shareIs(y, 1, 2);
+        y.take(8, 10);
+        shareIs(y, 2, 3);
     }
 
     /** Of a full hall the row 0 alone sees, and of that one the seat 11, past two columns. */
@@ -452,6 +459,14 @@ final class WhatWouldBeEdges {
         HallSights x = Halls.full();
         x.addColumn(495, -5, 5);
         x.addColumn(495, 0, 5);
+        return x;
+    }
+
+    /** A full hall on its steps; ahead of the row 9 alone a column covers the sides -14 to -10. */
+    private static HallSights all120But1() {
+        HallSights x = Halls.full();
+        x.liftAll();
+        x.addColumn(998, -12, 2);
         return x;
     }
 
@@ -470,20 +485,20 @@ final class WhatWouldBeEdges {
     // ---- promise 30
 
     /** The values of the list that the document tells, from the other calls' answers. */
-    private static List<Long> values(HallSights x, String buffer) {
+    private static List<Long> values(Edge.Make make, String buffer) {
+        HallSights x = make.hall();
         List<Long> all = new ArrayList<>();
-        int[] counts = new int[9];
         for (int what = 0; what <= 8; what++) {
-            counts[what] = x.count(what);
-            all.add((long) counts[what]);
+            all.add((long) x.count(what));
         }
         for (int setting = 0; setting <= 2; setting++) {
             all.add((long) x.setting(setting));
         }
-        for (int row = 0; row < counts[0]; row++) {
-            addRow(all, x, row);
+        for (int row = 0; row < x.count(0); row++) {
+            // A hall anew for each row: an object is used for 512 calls only.
+            addRow(all, make.hall(), row);
         }
-        for (int column = 0; column < counts[1]; column++) {
+        for (int column = 0; column < x.count(1); column++) {
             for (int what = 0; what <= 3; what++) {
                 all.add((long) x.column(column, what));
             }
@@ -525,10 +540,11 @@ final class WhatWouldBeEdges {
         return hash.longValue();
     }
 
-    private static void digestIs(HallSights x, String buffer) {
-        long digest = x.digest();
-        Check.same("digest()", digest, hash(values(x, buffer)));
-        Check.same("digest() once more", x.digest(), digest);
+    private static void digestIs(Edge.Make make, String buffer) {
+        HallSights x = make.hall();
+        long due = hash(values(make, buffer));
+        Check.same("digest()", x.digest(), due);
+        Check.same("digest() once more", x.digest(), due);
     }
 
     private static void digestTells() {
@@ -558,86 +574,100 @@ final class WhatWouldBeEdges {
         Check.same("digest() of a new object", new HallSights().digest(), hash);
     }
 
-    /** The hash of a new object is past 64 bits already; a full hall's wraps around many times. */
-    private static void digestOverflows() {
-        digestIs(new HallSights(), "");
-        digestIs(Halls.busy(), "50^70*6;60^80*1");
+    /** A hall with the greatest least height, and its settings at one end of their ranges. */
+    private static HallSights greatest() {
         HallSights x = Halls.two(1, 999, 999, 0);
         x.set(0, 0);
         x.set(1, 300);
         x.set(2, 100);
-        digestIs(x, "");
+        return x;
+    }
+
+    /** The hash of a new object is past 64 bits already; a full hall's wraps around many times. */
+    private static void digestOverflows() {
+        digestIs(HallSights::new, "");
+        digestIs(Halls::full, "");
+        digestIs(WhatWouldBeEdges::greatest, "");
     }
 
     private static void digestOfSettings() {
-        HallSights x = new HallSights();
-        x.set(0, 999);
-        x.set(1, 300);
-        x.set(2, 100);
-        digestIs(x, "");
-        x.set(0, 0);
-        x.set(1, 1);
-        x.set(2, 0);
-        digestIs(x, "");
+        digestIs(WhatWouldBeEdges::greatest, "");
+        digestIs(() -> {
+            HallSights x = new HallSights();
+            x.set(0, 999);
+            x.set(1, 1);
+            x.set(2, 0);
+            return x;
+        }, "");
     }
 
     /** The row 1 sees from 50 on, and from 51 on. */
     private static void digestOfRows() {
         int[][] halls = {{10, 3, 20, 50}, {20, 1, 43, 51}};
         for (int[] hall : halls) {
-            HallSights x = Halls.two(hall[0], hall[1], hall[2], 0);
-            x.take(0, 0);
-            x.take(1, 0);
-            Check.same("leastHeight(1)", x.leastHeight(1), hall[3]);
-            Check.same("ifLifted(1, 50)", x.ifLifted(1, 50), hall[3] == 50 ? 2 : 1);
-            digestIs(x, "");
+            Edge.Make make = () -> {
+                HallSights x = Halls.two(hall[0], hall[1], hall[2], 0);
+                x.take(0, 0);
+                x.take(1, 0);
+                return x;
+            };
+            Check.same("leastHeight(1)", make.hall().leastHeight(1), hall[3]);
+            Check.same("ifLifted(1, 50)", make.hall().ifLifted(1, 50), hall[3] == 50 ? 2 : 1);
+            digestIs(make, "");
         }
-        digestIs(Halls.two(10, 999, 20, 0), "");
+        digestIs(() -> Halls.two(10, 999, 20, 0), "");
     }
 
     private static void digestOfSeats() {
-        digestIs(highRow0(), "");
-        digestIs(Halls.large(), "");
-        digestIs(threeTaken(), "");
+        digestIs(WhatWouldBeEdges::highRow0, "");
+        digestIs(Halls::large, "");
+        digestIs(WhatWouldBeEdges::threeTaken, "");
     }
 
     private static void digestOfBest() {
         for (int seats = 1; seats <= 4; seats++) {
-            HallSights x = new HallSights();
-            x.addRow(10, 0, seats);
-            digestIs(x, "");
-            x.take(0, 0);
-            digestIs(x, "");
+            int many = seats;
+            Edge.Make make = () -> {
+                HallSights x = new HallSights();
+                x.addRow(10, 0, many);
+                return x;
+            };
+            digestIs(make, "");
+            digestIs(() -> {
+                HallSights x = make.hall();
+                x.take(0, 0);
+                return x;
+            }, "");
         }
     }
 
     private static void digestOfWorst() {
-        digestIs(columns(new int[] {0, 0}, new int[] {5, 1}, new int[] {-5, 2}), "");
-        digestIs(columns(new int[] {0, 0}), "");
-        digestIs(columns(), "");
+        digestIs(() -> columns(new int[] {0, 0}, new int[] {5, 1}, new int[] {-5, 2}), "");
+        digestIs(() -> columns(new int[] {0, 0}), "");
+        digestIs(() -> columns(), "");
     }
 
     private static void digestOfShares() {
-        digestIs(oneOf120(), "");
-        HallSights x = Halls.full();
-        x.liftAll();
-        x.addColumn(998, -12, 2);
-        digestIs(x, "");
-        x.addColumn(1, 0, 5);
-        digestIs(x, "");
-        digestIs(threeTaken(), "");
+        digestIs(WhatWouldBeEdges::oneOf120, "");
+        digestIs(WhatWouldBeEdges::all120But1, "");
+        digestIs(() -> {
+            HallSights x = Halls.full();
+            x.addColumn(1, 0, 5);
+            return x;
+        }, "");
+        digestIs(WhatWouldBeEdges::threeTaken, "");
     }
 
     private static void digestOfBuffer() {
-        String[] texts = {"", "!", "~", "5^0*1", "~!~!~"};
+        String[] texts = {"", "!", "~", "5^0*1", "~!~!~", "!~".repeat(30)};
         for (String text : texts) {
-            digestIs(Halls.withText(text), text);
+            digestIs(() -> Halls.withText(text), text);
         }
-        String sixty = "!~".repeat(30);
-        digestIs(Halls.withText(sixty), sixty);
-        HallSights x = Halls.withText("5^0*1;6^0*1");
-        x.clearBuffer();
-        x.append('7');
-        digestIs(x, "7");
+        digestIs(() -> {
+            HallSights x = Halls.withText("5^0*1;6^0*1");
+            x.clearBuffer();
+            x.append('7');
+            return x;
+        }, "7");
     }
 }

@@ -144,13 +144,14 @@ final class WhatWouldBeTest {
         lookAtDigest(x, "");
         Check.write(x, "1^2~");
         lookAtDigest(x, "1^2~");
-        x.addColumn(15, -3, 1);
-        x.addColumn(5, 0, 0);
-        x.addColumn(20, 0, 2);
-        lookAtDigest(x, "1^2~");
-        x.undo();
-        x.set(0, 120);
-        lookAtDigest(x, "1^2~");
+        HallSights y = LooksTest.flatHall();
+        y.addColumn(15, -3, 1);
+        y.addColumn(5, 0, 0);
+        y.addColumn(20, 0, 2);
+        lookAtDigest(y, "");
+        y.undo();
+        y.set(0, 120);
+        lookAtDigest(y, "");
         digestLiftsTo50();
         shares();
     }
