@@ -1,9 +1,10 @@
 /**
  * Seats in a hall with sight lines to one point of the stage.
  *
- * <p>The face checks the arguments and throws; {@link Hall} holds the state, {@link Survey} what is
- * seen in it, {@link History} the saved states, and {@link RowsText} the buffer. All of them are
- * made once with the object and used again, so that no call makes an object but an exception.
+ * <p>The face checks the arguments and throws; {@link Hall} holds the state, {@link Survey} a hall
+ * and what is seen in it, {@link History} the saved states, and {@link RowsText} the buffer. All of
+ * them are made once with the object and used again, so that no call makes an object but an
+ * exception.
  */
 public final class HallSights {
     public static final int NONE = -1;
@@ -34,12 +35,11 @@ public final class HallSights {
     private static final int DIGEST_LIFT = 50;
     private static final int DIGEST_BEST = 3;
 
-    private static final double TWO_TO_52 = 4503599627370496.0;
+    private static final long TWO_TO_52 = 4503599627370496L;
 
-    private final Hall hall = new Hall();
-    private final Survey survey = new Survey(hall);
-    private final Hall trial = new Hall();
-    private final Survey trialSurvey = new Survey(trial);
+    private final Survey survey = new Survey();
+    private final Hall hall = survey.hall;
+    private final Survey trial = new Survey();
     private final History history = new History();
     private final RowsText text = new RowsText();
 
@@ -447,11 +447,11 @@ public final class HallSights {
     }
 
     private int takenSeeingAt(int row, int height) {
-        trial.copyFrom(hall);
-        trial.heights[row] = height;
-        trialSurvey.forget();
-        trialSurvey.look();
-        return trialSurvey.takenSeeing();
+        trial.hall.copyFrom(hall);
+        trial.hall.heights[row] = height;
+        trial.forget();
+        trial.look();
+        return trial.takenSeeing();
     }
 
     private double shareOfSeeing() {
@@ -495,7 +495,7 @@ public final class HallSights {
             rest = rest * 2.0;
             exponent--;
         }
-        return (exponent << 52) + (long) ((rest - 1.0) * TWO_TO_52);
+        return exponent * TWO_TO_52 + (long) ((rest - 1.0) * (double) TWO_TO_52);
     }
 
     /** Rows, columns, people and settings: all that undo() brings back. */
@@ -745,20 +745,17 @@ public final class HallSights {
     }
 
     /**
-     * What is in the way of each seat of a hall. It is asked only behind look(), which counts anew
-     * if forget() was called since: so a digest, or many looks in a row, count but once.
+     * A hall, and what is in the way of each of its seats. It is asked for that only behind look(),
+     * which counts anew if forget() was called since: so a digest, or many looks in a row, count but
+     * once.
      */
     private static final class Survey {
-        private final Hall hall;
+        final Hall hall = new Hall();
         private boolean looked;
         final int[] people = new int[MOST_ROWS * MOST_SEATS];
         final int[] columns = new int[MOST_ROWS * MOST_SEATS];
         /** Numbers unlike each other, that are less for the seats that come first in the order. */
         private final int[] ranks = new int[MOST_ROWS * MOST_SEATS];
-
-        Survey(Hall hall) {
-            this.hall = hall;
-        }
 
         void forget() {
             looked = false;
